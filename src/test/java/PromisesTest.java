@@ -349,6 +349,7 @@ public final class PromisesTest {
         error(3, "AB=1[+1;", 7);
         error(3, "AB=1[+1,1", 8);
         error(3, "AB=1[+1,+]", 9);
+        error(3, "AB=1[-1,+]", 9);
         error(3, "AB=1[+1,+9999", 12);
         error(3, "AB=1[+1,+1,", 10);
         error(3, "AB=1[+1,+1;", 10);
@@ -547,6 +548,7 @@ public final class PromisesTest {
         CHECK.due("20: backward too", 0, () -> x.contributor(2, 0));
         x.setDeviations(1, 0, 5);
         CHECK.due("20: the widest", 1, () -> x.contributor(0, 2));
+        CHECK.due("20: the widest, backward", 1, () -> x.contributor(2, 0));
         CHECK.due("20: of the chain alone", 0, () -> x.contributor(1, 2));
         CHECK.due("20: an empty chain", -1, () -> x.contributor(3, 3));
         x.setDeviations(0, 0, 0);
@@ -643,6 +645,9 @@ public final class PromisesTest {
         x.addDimension(0, 1, 50, 0, 0);
         CHECK.refused("25: not consistent", STATE, x, () -> x.tight(0, 1, true));
         CHECK.refused("25: not consistent, another part", STATE, x, () -> x.tight(3, 3, true));
+        DimensionChecker star = loaded(3, "AB=10[-1,+2];AC=30[-4,+8]");
+        CHECK.due("25: over face 0, least", 14, () -> star.tight(1, 2, false));
+        CHECK.due("25: over face 0, greatest", 29, () -> star.tight(1, 2, true));
         CHECK.refused("25: index before that", INDEX, x, () -> x.tight(0, 4, true));
     }
 
