@@ -1,16 +1,35 @@
 /** Counts and prints the answers that are not as due. */
 final class Check {
+    static final Class<?> INDEX = IndexOutOfBoundsException.class;
+    static final Class<?> ARGUMENT = IllegalArgumentException.class;
+    static final Class<?> STATE = IllegalStateException.class;
+
     /** A call of the class under test, whose answer is told as an Object. */
     interface Call {
         Object run();
     }
 
-    private final String title;
+    /** A call with a number, or with one that is to be refused. */
+    interface OfOne {
+        Object run(int number);
+    }
+
+    /** A call with two numbers, mostly faces. */
+    interface OfTwo {
+        Object run(int first, int second);
+    }
+
+    private String title;
     private int wrong = 0;
     private int looked = 0;
 
     Check(String title) {
         this.title = title;
+    }
+
+    /** Later answers are told under this title. */
+    void under(String newTitle) {
+        title = newTitle;
     }
 
     void due(String call, Object want, Call body) {
@@ -22,6 +41,34 @@ final class Check {
         long before = x.digest();
         compare(call, thrown(want), answer(body));
         compare(call + ", digest behind it", before, x.digest());
+    }
+
+    /** The first properties of a dimension: from, to, nominal, lower, upper. */
+    void row(String about, DimensionChecker x, int dimension, int... want) {
+        for (int what = 0; what < want.length; what++) {
+            int asked = what;
+            due(about + ": property(" + dimension + ", " + what + ")", want[what],
+                    () -> x.property(dimension, asked));
+        }
+    }
+
+    /** Each two faces of which one is none, refused by index. */
+    void facesRefused(String about, DimensionChecker x, int faces, OfTwo call) {
+        for (int face : beside(faces, 12)) {
+            refused(about + " from " + face, INDEX, x, () -> call.run(face, 0));
+            refused(about + " to " + face, INDEX, x, () -> call.run(0, face));
+        }
+    }
+
+    /** The numbers beside 0 to end - 1, refused by index. */
+    void numbersRefused(String about, DimensionChecker x, int end, OfOne call) {
+        for (int number : beside(end, 20)) {
+            refused(about + " of " + number, INDEX, x, () -> call.run(number));
+        }
+    }
+
+    private static int[] beside(int end, int most) {
+        return new int[] {-1, end, most, Integer.MIN_VALUE, Integer.MAX_VALUE};
     }
 
     void compare(String call, Object want, Object got) {
@@ -46,6 +93,10 @@ final class Check {
 
     int wrong() {
         return wrong;
+    }
+
+    int looked() {
+        return looked;
     }
 
     void end() {

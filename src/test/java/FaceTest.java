@@ -11,15 +11,37 @@ import java.util.TreeSet;
 public final class FaceTest {
     private static final Check CHECK = new Check("face");
 
+    private static final String INDEX = " IndexOutOfBoundsException";
+    private static final String ARGUMENT = " IllegalArgumentException";
+    private static final String STATE = " IllegalStateException";
+
     private static final String[] METHODS = {
-        "int setFaces(int)", "int addDimension(int,int,int,int,int)", "int removeDimension(int)",
-        "int setDeviations(int,int,int)", "int general(char)", "int property(int,int)",
-        "int dimensionCount()", "int append(int)", "int clearInput()", "int firstError()",
-        "int load()", "boolean isDoubled(int)", "int missing()", "int partOf(int)",
-        "int chainLength(int,int)", "int chainDimension(int,int,int)", "int gap(int,int,int)",
-        "int spread(int,int)", "int contributor(int,int)", "double part(int,int,int)",
-        "int misfit(int)", "int contradictions()", "boolean isConsistent()",
-        "int tight(int,int,boolean)", "int transfer(int,int)", "int distribute(int,int,int)",
+        "int setFaces(int)" + ARGUMENT,
+        "int addDimension(int,int,int,int,int)" + INDEX + ARGUMENT + STATE,
+        "int removeDimension(int)" + INDEX,
+        "int setDeviations(int,int,int)" + INDEX + ARGUMENT,
+        "int general(char)" + ARGUMENT,
+        "int property(int,int)" + INDEX + ARGUMENT,
+        "int dimensionCount()",
+        "int append(int)" + ARGUMENT + STATE,
+        "int clearInput()",
+        "int firstError()",
+        "int load()" + STATE,
+        "boolean isDoubled(int)" + INDEX,
+        "int missing()",
+        "int partOf(int)" + INDEX,
+        "int chainLength(int,int)" + INDEX,
+        "int chainDimension(int,int,int)" + INDEX,
+        "int gap(int,int,int)" + INDEX + ARGUMENT + STATE,
+        "int spread(int,int)" + INDEX + STATE,
+        "int contributor(int,int)" + INDEX + STATE,
+        "double part(int,int,int)" + INDEX + STATE,
+        "int misfit(int)" + INDEX + STATE,
+        "int contradictions()",
+        "boolean isConsistent()",
+        "int tight(int,int,boolean)" + INDEX + STATE,
+        "int transfer(int,int)" + INDEX + ARGUMENT + STATE,
+        "int distribute(int,int,int)" + INDEX + ARGUMENT + STATE,
         "long digest()"
     };
 
@@ -70,12 +92,17 @@ public final class FaceTest {
         return !Modifier.isPrivate(member.getModifiers()) && !member.isSynthetic();
     }
 
+    /** With the exceptions of its throws clause, in their order. */
     private static String signature(Method method) {
         StringBuilder text = new StringBuilder();
         text.append(method.getReturnType()).append(' ').append(method.getName()).append('(');
         for (Class<?> kind : method.getParameterTypes()) {
             text.append(text.charAt(text.length() - 1) == '(' ? "" : ",").append(kind);
         }
-        return text.append(')').toString();
+        text.append(')');
+        for (Class<?> kind : method.getExceptionTypes()) {
+            text.append(' ').append(kind.getSimpleName());
+        }
+        return text.toString();
     }
 }

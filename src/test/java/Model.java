@@ -299,7 +299,7 @@ final class Model {
         return found;
     }
 
-    /** The greatest positions behind one face, by n rounds over all limits; null if they sink on. */
+    /** The greatest positions behind one face, by n rounds over all limits; null if they sink. */
     private long[] positions(int start) {
         long[] position = new long[n];
         java.util.Arrays.fill(position, FAR);

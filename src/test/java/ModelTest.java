@@ -143,7 +143,8 @@ public final class ModelTest {
 
     private String piece() {
         StringBuilder text = new StringBuilder();
-        text.append((char) ('A' + random.nextInt(faces))).append((char) ('A' + random.nextInt(faces)));
+        text.append((char) ('A' + random.nextInt(faces)));
+        text.append((char) ('A' + random.nextInt(faces)));
         text.append('=').append(around(nominals));
         if (random.nextInt(3) > 0) {
             int one = around(Math.min(deviations, 40));
@@ -177,7 +178,8 @@ public final class ModelTest {
         String of = " " + a + " " + b + " " + d + " " + i + " " + upper;
         switch (kind) {
             case 0 -> both("property" + of, () -> x.property(d, i), () -> model.property(d, i));
-            case 1 -> both("dimensionCount", () -> x.dimensionCount(), () -> model.dimensionCount());
+            case 1 -> both("dimensionCount", () -> x.dimensionCount(),
+                    () -> model.dimensionCount());
             case 2 -> both("isDoubled" + of, () -> x.isDoubled(d), () -> model.isDoubled(d));
             case 3 -> both("missing", () -> x.missing(), () -> model.missing());
             case 4 -> both("partOf" + of, () -> x.partOf(a), () -> model.partOf(a));
@@ -192,7 +194,8 @@ public final class ModelTest {
             case 10 -> both("part" + of, () -> x.part(a, b, d), () -> model.part(a, b, d));
             case 11 -> both("misfit" + of, () -> x.misfit(d), () -> model.misfit(d));
             case 12 -> both("isConsistent", () -> x.isConsistent(), () -> model.isConsistent());
-            default -> both("tight" + of, () -> x.tight(a, b, upper), () -> model.tight(a, b, upper));
+            default -> both("tight" + of, () -> x.tight(a, b, upper),
+                    () -> model.tight(a, b, upper));
         }
     }
 }

@@ -1,9 +1,9 @@
 /** Each promise of the document by its number: ordinary inputs, edges and wrong inputs. */
 public final class PromisesTest {
     private static final Check CHECK = new Check("promises");
-    private static final Class<?> INDEX = IndexOutOfBoundsException.class;
-    private static final Class<?> ARGUMENT = IllegalArgumentException.class;
-    private static final Class<?> STATE = IllegalStateException.class;
+    private static final Class<?> INDEX = Check.INDEX;
+    private static final Class<?> ARGUMENT = Check.ARGUMENT;
+    private static final Class<?> STATE = Check.STATE;
     private static final int[] FAR = {Integer.MIN_VALUE, Integer.MAX_VALUE};
 
     public static void main(String[] args) {
@@ -41,67 +41,6 @@ public final class PromisesTest {
         CHECK.end();
     }
 
-    // ---- drawings that several promises use
-
-    private static DimensionChecker faces(int n) {
-        DimensionChecker x = new DimensionChecker();
-        x.setFaces(n);
-        return x;
-    }
-
-    private static DimensionChecker loaded(int n, String list) {
-        DimensionChecker x = faces(n);
-        write(x, list);
-        x.load();
-        return x;
-    }
-
-    private static void write(DimensionChecker x, String text) {
-        for (char sign : text.toCharArray()) {
-            x.append(sign);
-        }
-    }
-
-    private static DimensionChecker full() {
-        DimensionChecker x = faces(2);
-        for (int d = 0; d < 20; d++) {
-            x.addDimension(d % 2, 1 - d % 2, d, 0, 1);
-        }
-        return x;
-    }
-
-    private static void row(String about, DimensionChecker x, int dimension, int... want) {
-        for (int what = 0; what < want.length; what++) {
-            int asked = what;
-            CHECK.due(about + ": property(" + dimension + ", " + what + ")", want[what],
-                    () -> x.property(dimension, asked));
-        }
-    }
-
-    /** Each two faces of which one is none, refused by index. */
-    private interface OfTwoFaces {
-        Object run(int from, int to);
-    }
-
-    private static void facesRefused(String about, DimensionChecker x, int faces, OfTwoFaces call) {
-        int[] none = {-1, faces, 12, FAR[0], FAR[1]};
-        for (int face : none) {
-            CHECK.refused(about + " from " + face, INDEX, x, () -> call.run(face, 0));
-            CHECK.refused(about + " to " + face, INDEX, x, () -> call.run(0, face));
-        }
-    }
-
-    private interface OfOne {
-        Object run(int number);
-    }
-
-    private static void numbersRefused(String about, DimensionChecker x, int end, OfOne call) {
-        int[] none = {-1, end, 20, FAR[0], FAR[1]};
-        for (int number : none) {
-            CHECK.refused(about + " of " + number, INDEX, x, () -> call.run(number));
-        }
-    }
-
     // ---- promise 1
 
     private static void newObject() {
@@ -122,8 +61,8 @@ public final class PromisesTest {
     // ---- promise 2
 
     private static void setFaces() {
-        DimensionChecker x = loaded(3, "AB=5;BC=6");
-        write(x, "AC");
+        DimensionChecker x = Drawings.loaded(3, "AB=5;BC=6");
+        Drawings.write(x, "AC");
         for (int n : new int[] {1, 0, -1, 13, FAR[0], FAR[1]}) {
             CHECK.refused("2: setFaces(" + n + ")", ARGUMENT, x, () -> x.setFaces(n));
         }
@@ -140,23 +79,23 @@ public final class PromisesTest {
     // ---- promise 3
 
     private static void addDimension() {
-        DimensionChecker x = faces(12);
+        DimensionChecker x = Drawings.faces(12);
         CHECK.due("3: greatest", 0, () -> x.addDimension(0, 11, 99999, 999, 999));
         CHECK.due("3: least", 1, () -> x.addDimension(11, 0, -99999, -999, -999));
         CHECK.due("3: widest", 2, () -> x.addDimension(1, 2, 0, -999, 999));
         CHECK.due("3: the same again", 3, () -> x.addDimension(1, 2, 0, -999, 999));
-        row("3", x, 0, 0, 11, 99999, 999, 999);
-        row("3", x, 1, 11, 0, -99999, -999, -999);
-        row("3", x, 2, 1, 2, 0, -999, 999);
+        CHECK.row("3", x, 0, 0, 11, 99999, 999, 999);
+        CHECK.row("3", x, 1, 11, 0, -99999, -999, -999);
+        CHECK.row("3", x, 2, 1, 2, 0, -999, 999);
         CHECK.due("3: joins faces", 0, () -> x.partOf(11));
-        DimensionChecker twenty = full();
+        DimensionChecker twenty = Drawings.full();
         CHECK.due("3: twenty", 20, () -> twenty.dimensionCount());
-        row("3", twenty, 19, 1, 0, 19, 0, 1);
+        CHECK.row("3", twenty, 19, 1, 0, 19, 0, 1);
     }
 
     private static void addDimensionRefused() {
-        DimensionChecker x = faces(3);
-        facesRefused("3: addDimension", x, 3, (a, b) -> x.addDimension(a, b, 0, 0, 0));
+        DimensionChecker x = Drawings.faces(3);
+        CHECK.facesRefused("3: addDimension", x, 3, (a, b) -> x.addDimension(a, b, 0, 0, 0));
         CHECK.refused("3: same face", ARGUMENT, x, () -> x.addDimension(1, 1, 0, 0, 0));
         for (int nominal : new int[] {-100000, 100000, FAR[0], FAR[1]}) {
             CHECK.refused("3: " + nominal, ARGUMENT, x, () -> x.addDimension(0, 1, nominal, 0, 0));
@@ -168,7 +107,7 @@ public final class PromisesTest {
                     () -> x.addDimension(0, 1, 0, pair[0], pair[1]));
         }
         CHECK.refused("3: index before argument", INDEX, x, () -> x.addDimension(3, 3, 0, 1, 0));
-        DimensionChecker twenty = full();
+        DimensionChecker twenty = Drawings.full();
         CHECK.refused("3: a 21st", STATE, twenty, () -> twenty.addDimension(0, 1, 0, 0, 0));
         CHECK.refused("3: index before state", INDEX, twenty,
                 () -> twenty.addDimension(0, 2, 0, 0, 0));
@@ -181,32 +120,32 @@ public final class PromisesTest {
     // ---- promise 4
 
     private static void removeDimension() {
-        DimensionChecker x = loaded(3, "AB=1[-1,+2];BC=2;AC=3[-3,+4]");
-        numbersRefused("4: removeDimension", x, 3, d -> x.removeDimension(d));
+        DimensionChecker x = Drawings.loaded(3, "AB=1[-1,+2];BC=2;AC=3[-3,+4]");
+        CHECK.numbersRefused("4: removeDimension", x, 3, d -> x.removeDimension(d));
         CHECK.due("4: doubled before", true, () -> x.isDoubled(2));
         CHECK.due("4: removeDimension(1)", 2, () -> x.removeDimension(1));
-        row("4", x, 0, 0, 1, 1, -1, 2);
-        row("4", x, 1, 0, 2, 3, -3, 4);
+        CHECK.row("4", x, 0, 0, 1, 1, -1, 2);
+        CHECK.row("4", x, 1, 0, 2, 3, -3, 4);
         CHECK.due("4: not doubled any more", false, () -> x.isDoubled(1));
         CHECK.due("4: partOf(2)", 0, () -> x.partOf(2));
         CHECK.due("4: the last", 1, () -> x.removeDimension(1));
         CHECK.due("4: its face is apart", 2, () -> x.partOf(2));
         CHECK.due("4: the first", 0, () -> x.removeDimension(0));
         CHECK.refused("4: none left", INDEX, x, () -> x.removeDimension(0));
-        DimensionChecker twenty = full();
+        DimensionChecker twenty = Drawings.full();
         CHECK.due("4: of twenty", 19, () -> twenty.removeDimension(0));
-        row("4", twenty, 18, 1, 0, 19, 0, 1);
+        CHECK.row("4", twenty, 18, 1, 0, 19, 0, 1);
         CHECK.due("4: room for one", 19, () -> twenty.addDimension(0, 1, 7, 0, 0));
     }
 
     // ---- promise 5
 
     private static void setDeviations() {
-        DimensionChecker x = loaded(2, "AB=10[-2,+5]");
-        numbersRefused("5: setDeviations", x, 1, d -> x.setDeviations(d, 0, 0));
+        DimensionChecker x = Drawings.loaded(2, "AB=10[-2,+5]");
+        CHECK.numbersRefused("5: setDeviations", x, 1, d -> x.setDeviations(d, 0, 0));
         CHECK.due("5: its width before", 7, () -> x.setDeviations(0, -999, 999));
         CHECK.due("5: the greatest width", 1998, () -> x.setDeviations(0, 4, 4));
-        row("5", x, 0, 0, 1, 10, 4, 4);
+        CHECK.row("5", x, 0, 0, 1, 10, 4, 4);
         int[][] wrong = {{5, 4}, {-1000, 0}, {0, 1000}, {1000, 1000}, {-1000, -1000},
             {FAR[0], 0}, {0, FAR[1]}, {FAR[1], FAR[0]}};
         for (int[] pair : wrong) {
@@ -234,32 +173,32 @@ public final class PromisesTest {
                 tolerance(grade, -sizes[s], due[g][s]);
             }
         }
-        DimensionChecker x = loaded(3, "AB=1;BC=2[-1,+0];AC=3;AC=3[+0,+1];AC=4[-0,+0]");
+        DimensionChecker x = Drawings.loaded(3, "AB=1;BC=2[-1,+0];AC=3;AC=3[+0,+1];AC=4[-0,+0]");
         for (char grade : new char[] {'F', 'M', 'a', 'x', 0, ' ', 65535}) {
             CHECK.refused("6: general " + (int) grade, ARGUMENT, x, () -> x.general(grade));
         }
         CHECK.due("6: both deviations 0", 3, () -> x.general('f'));
-        row("6", x, 1, 1, 2, 2, -1, 0);
-        row("6", x, 3, 0, 2, 3, 0, 1);
-        row("6: a doubled one", x, 2, 0, 2, 3, -5, 5);
+        CHECK.row("6", x, 1, 1, 2, 2, -1, 0);
+        CHECK.row("6", x, 3, 0, 2, 3, 0, 1);
+        CHECK.row("6: a doubled one", x, 2, 0, 2, 3, -5, 5);
         CHECK.due("6: nothing more to do", 0, () -> x.general('v'));
-        CHECK.due("6: no dimension", 0, () -> faces(2).general('c'));
+        CHECK.due("6: no dimension", 0, () -> Drawings.faces(2).general('c'));
     }
 
     private static void tolerance(char grade, int nominal, int due) {
-        DimensionChecker x = faces(2);
+        DimensionChecker x = Drawings.faces(2);
         x.addDimension(0, 1, nominal, 0, 0);
         CHECK.due("6: general(" + grade + ") of " + nominal, 1, () -> x.general(grade));
-        row("6: general(" + grade + ") of " + nominal, x, 0, 0, 1, nominal, -due, due);
+        CHECK.row("6: general(" + grade + ") of " + nominal, x, 0, 0, 1, nominal, -due, due);
     }
 
     // ---- promise 7
 
     private static void property() {
-        DimensionChecker x = loaded(12, "CL=-77[-8,-6];LC=5");
-        row("7", x, 0, 2, 11, -77, -8, -6);
-        row("7", x, 1, 11, 2, 5, 0, 0);
-        numbersRefused("7: property", x, 2, d -> x.property(d, 0));
+        DimensionChecker x = Drawings.loaded(12, "CL=-77[-8,-6];LC=5");
+        CHECK.row("7", x, 0, 2, 11, -77, -8, -6);
+        CHECK.row("7", x, 1, 11, 2, 5, 0, 0);
+        CHECK.numbersRefused("7: property", x, 2, d -> x.property(d, 0));
         for (int what : new int[] {-1, 5, FAR[0], FAR[1]}) {
             CHECK.refused("7: property " + what, ARGUMENT, x, () -> x.property(0, what));
         }
@@ -269,7 +208,7 @@ public final class PromisesTest {
     // ---- promise 8
 
     private static void dimensionCount() {
-        DimensionChecker x = faces(3);
+        DimensionChecker x = Drawings.faces(3);
         CHECK.due("8: none", 0, () -> x.dimensionCount());
         x.addDimension(0, 1, 0, 0, 0);
         x.addDimension(0, 1, 0, 0, 0);
@@ -281,7 +220,7 @@ public final class PromisesTest {
     // ---- promise 9
 
     private static void append() {
-        DimensionChecker x = faces(2);
+        DimensionChecker x = Drawings.faces(2);
         for (int code : new int[] {31, 127, 0, -1, 233, FAR[0], FAR[1]}) {
             CHECK.refused("9: append " + code, ARGUMENT, x, () -> x.append(code));
         }
@@ -297,8 +236,8 @@ public final class PromisesTest {
     // ---- promise 10
 
     private static void clearInput() {
-        DimensionChecker x = loaded(2, "AB=7");
-        write(x, "AB=8");
+        DimensionChecker x = Drawings.loaded(2, "AB=7");
+        Drawings.write(x, "AB=8");
         CHECK.due("10: clearInput", 4, () -> x.clearInput());
         CHECK.due("10: again", 0, () -> x.clearInput());
         CHECK.due("10: the drawing stays", 7, () -> x.property(0, 2));
@@ -371,9 +310,9 @@ public final class PromisesTest {
     }
 
     private static void error(int faces, String text, int due) {
-        DimensionChecker x = faces(faces);
+        DimensionChecker x = Drawings.faces(faces);
         String buffer = text.length() > 60 ? text.substring(0, 60) : text;
-        write(x, buffer);
+        Drawings.write(x, buffer);
         long before = x.digest();
         CHECK.due("11: firstError of " + buffer, due, () -> x.firstError());
         CHECK.compare("11: firstError changes nothing", before, x.digest());
@@ -382,45 +321,45 @@ public final class PromisesTest {
     // ---- promise 12
 
     private static void load() {
-        DimensionChecker x = faces(3);
+        DimensionChecker x = Drawings.faces(3);
         x.addDimension(0, 1, 1, 1, 1);
         x.addDimension(0, 2, 1, 1, 1);
         x.addDimension(1, 2, 1, 1, 1);
         String[] none = {"", "A", "AB", "AB=", "AB=-", "AB=1[", "AB=1[-", "AB=1[-1", "AB=1[-1,",
             "AB=1[-1,+", "AB=1[-1,+1", "AB=1;", "AB=1[-1,+1];", "AB=1x", "AD=1", "AB=1[+1,+0]"};
         for (String text : none) {
-            write(x, text);
+            Drawings.write(x, text);
             CHECK.refused("12: load of " + text, STATE, x, () -> x.load());
             x.clearInput();
         }
-        write(x, "CA=-120[-7,+003];AB=00045");
+        Drawings.write(x, "CA=-120[-7,+003];AB=00045");
         CHECK.due("12: load", 2, () -> x.load());
-        row("12", x, 0, 2, 0, -120, -7, 3);
-        row("12", x, 1, 0, 1, 45, 0, 0);
+        CHECK.row("12", x, 0, 2, 0, -120, -7, 3);
+        CHECK.row("12", x, 1, 0, 1, 45, 0, 0);
         CHECK.due("12: dimensionCount", 2, () -> x.dimensionCount());
         CHECK.due("12: parts are found", 0, () -> x.missing());
         CHECK.due("12: the faces stay", 2, () -> x.chainLength(1, 2));
         CHECK.due("12: the buffer is cleared", 0, () -> x.clearInput());
-        write(x, "AB=1;AB=2;AB=3;AB=4;AB=5;AB=6;AB=7;AB=8;AB=9;AB=0;AB=-1;AB=1");
+        Drawings.write(x, "AB=1;AB=2;AB=3;AB=4;AB=5;AB=6;AB=7;AB=8;AB=9;AB=0;AB=-1;AB=1");
         CHECK.due("12: as many as the buffer takes", 12, () -> x.load());
-        row("12", x, 10, 0, 1, -1, 0, 0);
+        CHECK.row("12", x, 10, 0, 1, -1, 0, 0);
         CHECK.due("12: doubled", true, () -> x.isDoubled(11));
-        write(x, "BC=5[-999,+999]");
+        Drawings.write(x, "BC=5[-999,+999]");
         CHECK.due("12: fewer than before", 1, () -> x.load());
-        row("12", x, 0, 1, 2, 5, -999, 999);
+        CHECK.row("12", x, 0, 1, 2, 5, -999, 999);
         CHECK.due("12: face 0 is apart", 1, () -> x.missing());
     }
 
     // ---- promise 13
 
     private static void isDoubled() {
-        DimensionChecker x = loaded(5, "AB=1;CD=1;BA=1;DB=1;AC=1;CA=1;AE=1");
+        DimensionChecker x = Drawings.loaded(5, "AB=1;CD=1;BA=1;DB=1;AC=1;CA=1;AE=1");
         boolean[] due = {false, false, true, false, true, true, false};
         for (int d = 0; d < due.length; d++) {
             int asked = d;
             CHECK.due("13: isDoubled(" + d + ")", due[d], () -> x.isDoubled(asked));
         }
-        numbersRefused("13: isDoubled", x, 7, d -> x.isDoubled(d));
+        CHECK.numbersRefused("13: isDoubled", x, 7, d -> x.isDoubled(d));
         x.removeDimension(0);
         CHECK.due("13: its double takes its place", false, () -> x.isDoubled(1));
     }
@@ -428,7 +367,7 @@ public final class PromisesTest {
     // ---- promise 14
 
     private static void missing() {
-        DimensionChecker x = faces(5);
+        DimensionChecker x = Drawings.faces(5);
         CHECK.due("14: none given", 4, () -> x.missing());
         x.addDimension(4, 3, 1, 0, 0);
         CHECK.due("14: one given", 3, () -> x.missing());
@@ -443,7 +382,7 @@ public final class PromisesTest {
     // ---- promise 15
 
     private static void partOf() {
-        DimensionChecker x = loaded(6, "FE=1;DC=1;EC=1");
+        DimensionChecker x = Drawings.loaded(6, "FE=1;DC=1;EC=1");
         int[] due = {0, 1, 2, 2, 2, 2};
         for (int face = 0; face < due.length; face++) {
             int asked = face;
@@ -459,15 +398,15 @@ public final class PromisesTest {
     // ---- promises 16 and 17
 
     private static void chainLength() {
-        DimensionChecker x = loaded(5, "BA=1;CB=1;AC=1;CD=1");
-        facesRefused("16: chainLength", x, 5, (a, b) -> x.chainLength(a, b));
+        DimensionChecker x = Drawings.loaded(5, "BA=1;CB=1;AC=1;CD=1");
+        CHECK.facesRefused("16: chainLength", x, 5, (a, b) -> x.chainLength(a, b));
         CHECK.due("16: to itself", 0, () -> x.chainLength(2, 2));
         CHECK.due("16: one", 1, () -> x.chainLength(0, 1));
         CHECK.due("16: not by the doubled one", 2, () -> x.chainLength(0, 2));
         CHECK.due("16: three", 3, () -> x.chainLength(3, 0));
         CHECK.due("16: not connected", -1, () -> x.chainLength(0, 4));
         CHECK.due("16: not connected, to itself", 0, () -> x.chainLength(4, 4));
-        DimensionChecker longest = faces(12);
+        DimensionChecker longest = Drawings.faces(12);
         for (int face = 10; face >= 0; face--) {
             longest.addDimension(face, face + 1, face, 0, 0);
         }
@@ -478,8 +417,8 @@ public final class PromisesTest {
     }
 
     private static void chainDimension() {
-        DimensionChecker x = loaded(5, "DC=1;AB=1;AC=1;BC=1");
-        facesRefused("17: chainDimension", x, 5, (a, b) -> x.chainDimension(a, b, 0));
+        DimensionChecker x = Drawings.loaded(5, "DC=1;AB=1;AC=1;BC=1");
+        CHECK.facesRefused("17: chainDimension", x, 5, (a, b) -> x.chainDimension(a, b, 0));
         int[] due = {0, 2, 1};
         for (int i = 0; i < due.length; i++) {
             int index = i;
@@ -496,8 +435,8 @@ public final class PromisesTest {
     // ---- promise 18
 
     private static void gap() {
-        DimensionChecker x = loaded(4, "AB=100[-5,+2];CB=30[-1,+7];AC=9");
-        facesRefused("18: gap", x, 4, (a, b) -> x.gap(a, b, 0));
+        DimensionChecker x = Drawings.loaded(4, "AB=100[-5,+2];CB=30[-1,+7];AC=9");
+        CHECK.facesRefused("18: gap", x, 4, (a, b) -> x.gap(a, b, 0));
         int[] forward = {70, 58, 73};
         int[] backward = {-70, -73, -58};
         for (int what = 0; what < 3; what++) {
@@ -512,7 +451,7 @@ public final class PromisesTest {
         }
         CHECK.refused("18: index before argument", INDEX, x, () -> x.gap(0, 4, 3));
         CHECK.refused("18: argument before state", ARGUMENT, x, () -> x.gap(0, 3, 3));
-        DimensionChecker far = faces(12);
+        DimensionChecker far = Drawings.faces(12);
         for (int face = 0; face < 11; face++) {
             far.addDimension(face, face + 1, 99999, -999, 999);
         }
@@ -525,8 +464,8 @@ public final class PromisesTest {
     // ---- promise 19
 
     private static void spread() {
-        DimensionChecker x = loaded(4, "AB=100[-1,+2];CB=30[-4,+0];AC=9[-9,+9]");
-        facesRefused("19: spread", x, 4, (a, b) -> x.spread(a, b));
+        DimensionChecker x = Drawings.loaded(4, "AB=100[-1,+2];CB=30[-4,+0];AC=9[-9,+9]");
+        CHECK.facesRefused("19: spread", x, 4, (a, b) -> x.spread(a, b));
         CHECK.due("19: an exact root", 5, () -> x.spread(0, 2));
         CHECK.due("19: backward", 5, () -> x.spread(2, 0));
         CHECK.due("19: to itself", 0, () -> x.spread(3, 3));
@@ -542,8 +481,8 @@ public final class PromisesTest {
     // ---- promise 20
 
     private static void contributor() {
-        DimensionChecker x = loaded(4, "CB=1[-2,+2];AB=1[-1,+3];AC=1[-9,+9]");
-        facesRefused("20: contributor", x, 4, (a, b) -> x.contributor(a, b));
+        DimensionChecker x = Drawings.loaded(4, "CB=1[-2,+2];AB=1[-1,+3];AC=1[-9,+9]");
+        CHECK.facesRefused("20: contributor", x, 4, (a, b) -> x.contributor(a, b));
         CHECK.due("20: the lowest of equals", 0, () -> x.contributor(0, 2));
         CHECK.due("20: backward too", 0, () -> x.contributor(2, 0));
         x.setDeviations(1, 0, 5);
@@ -560,9 +499,9 @@ public final class PromisesTest {
     // ---- promise 21
 
     private static void part() {
-        DimensionChecker x = loaded(4, "AB=1[-1,+0];CB=1[-1,+1];AC=1[-9,+9]");
-        facesRefused("21: part", x, 4, (a, b) -> x.part(a, b, 0));
-        numbersRefused("21: part", x, 3, d -> x.part(0, 1, d));
+        DimensionChecker x = Drawings.loaded(4, "AB=1[-1,+0];CB=1[-1,+1];AC=1[-9,+9]");
+        CHECK.facesRefused("21: part", x, 4, (a, b) -> x.part(a, b, 0));
+        CHECK.numbersRefused("21: part", x, 3, d -> x.part(0, 1, d));
         CHECK.due("21: a third", 1.0 / 3, () -> x.part(0, 2, 0));
         CHECK.due("21: two thirds", 2.0 / 3, () -> x.part(2, 0, 1));
         CHECK.due("21: all", 1.0, () -> x.part(0, 1, 0));
@@ -579,8 +518,8 @@ public final class PromisesTest {
     // ---- promise 22
 
     private static void misfit() {
-        DimensionChecker x = loaded(3, "AB=100[-9,+1];CB=30;AC=75[-2,+2];CA=-71;BA=-100");
-        numbersRefused("22: misfit", x, 5, d -> x.misfit(d));
+        DimensionChecker x = Drawings.loaded(3, "AB=100[-9,+1];CB=30;AC=75[-2,+2];CA=-71;BA=-100");
+        CHECK.numbersRefused("22: misfit", x, 5, d -> x.misfit(d));
         CHECK.due("22: forward", 5, () -> x.misfit(2));
         CHECK.due("22: backward", -1, () -> x.misfit(3));
         CHECK.due("22: agrees", 0, () -> x.misfit(4));
@@ -590,7 +529,7 @@ public final class PromisesTest {
     // ---- promise 23
 
     private static void contradictions() {
-        DimensionChecker x = loaded(2, "AB=100[-5,+5]");
+        DimensionChecker x = Drawings.loaded(2, "AB=100[-5,+5]");
         CHECK.due("23: none doubled", 0, () -> x.contradictions());
         x.addDimension(0, 1, 90, 0, 5);
         CHECK.due("23: touches from below", 0, () -> x.contradictions());
@@ -609,19 +548,19 @@ public final class PromisesTest {
     // ---- promise 24
 
     private static void isConsistent() {
-        DimensionChecker x = loaded(2, "AB=10[-5,+5];AB=5[-5,+0];AB=15[+0,+5]");
+        DimensionChecker x = Drawings.loaded(2, "AB=10[-5,+5];AB=5[-5,+0];AB=15[+0,+5]");
         CHECK.due("24: no contradiction with the chain", 0, () -> x.contradictions());
         CHECK.due("24: but the doubled ones disagree", false, () -> x.isConsistent());
         x.removeDimension(2);
         CHECK.due("24: one position left", true, () -> x.isConsistent());
         x.setDeviations(1, -5, -1);
         CHECK.due("24: none left", false, () -> x.isConsistent());
-        DimensionChecker ring = loaded(5, "DE=5;AB=10;BC=10;CA=-20");
+        DimensionChecker ring = Drawings.loaded(5, "DE=5;AB=10;BC=10;CA=-20");
         CHECK.due("24: a ring that closes", true, () -> ring.isConsistent());
         ring.setDeviations(3, 1, 1);
         CHECK.due("24: a ring that does not", false, () -> ring.isConsistent());
-        CHECK.due("24: no dimension", true, () -> faces(12).isConsistent());
-        DimensionChecker wild = faces(12);
+        CHECK.due("24: no dimension", true, () -> Drawings.faces(12).isConsistent());
+        DimensionChecker wild = Drawings.faces(12);
         for (int d = 0; d < 20; d++) {
             wild.addDimension(d % 12, (d * 7 + 1) % 12, d % 2 == 0 ? 99999 : -99999, 999, 999);
         }
@@ -631,8 +570,8 @@ public final class PromisesTest {
     // ---- promise 25
 
     private static void tight() {
-        DimensionChecker x = loaded(4, "AB=100[-5,+5];CB=30[-2,+2];AC=70[-1,+12]");
-        facesRefused("25: tight", x, 4, (a, b) -> x.tight(a, b, true));
+        DimensionChecker x = Drawings.loaded(4, "AB=100[-5,+5];CB=30[-2,+2];AC=70[-1,+12]");
+        CHECK.facesRefused("25: tight", x, 4, (a, b) -> x.tight(a, b, true));
         CHECK.due("25: least gap", 69, () -> x.tight(0, 2, false));
         CHECK.due("25: greatest gap", 77, () -> x.tight(0, 2, true));
         CHECK.due("25: backward, least", -77, () -> x.tight(2, 0, false));
@@ -645,7 +584,7 @@ public final class PromisesTest {
         x.addDimension(0, 1, 50, 0, 0);
         CHECK.refused("25: not consistent", STATE, x, () -> x.tight(0, 1, true));
         CHECK.refused("25: not consistent, another part", STATE, x, () -> x.tight(3, 3, true));
-        DimensionChecker star = loaded(3, "AB=10[-1,+2];AC=30[-4,+8]");
+        DimensionChecker star = Drawings.loaded(3, "AB=10[-1,+2];AC=30[-4,+8]");
         CHECK.due("25: over face 0, least", 14, () -> star.tight(1, 2, false));
         CHECK.due("25: over face 0, greatest", 29, () -> star.tight(1, 2, true));
         CHECK.refused("25: index before that", INDEX, x, () -> x.tight(0, 4, true));
@@ -654,45 +593,46 @@ public final class PromisesTest {
     // ---- promise 26
 
     private static void transfer() {
-        DimensionChecker x = loaded(4, "BC=20[-4,+5];BA=-10[-1,+2];CD=7[-9,+9];AC=30[-9,+9]");
+        DimensionChecker x = Drawings.loaded(4,
+                "BC=20[-4,+5];BA=-10[-1,+2];CD=7[-9,+9];AC=30[-9,+9]");
         // From A to B: nominal 10, least 8, greatest 11.
         CHECK.due("26: transfer(0, 0)", 6, () -> x.transfer(0, 0));
-        row("26", x, 0, 0, 2, 30, -3, 3);
+        CHECK.row("26", x, 0, 0, 2, 30, -3, 3);
         CHECK.due("26: the chain goes over the datum", 2, () -> x.chainLength(1, 2));
         CHECK.due("26: the other rows stay", 1, () -> x.property(1, 0));
-        DimensionChecker y = loaded(3, "BC=20[-4,+4];BC=21[-1,+1];AB=10[-1,+1]");
+        DimensionChecker y = Drawings.loaded(3, "BC=20[-4,+4];BC=21[-1,+1];AB=10[-1,+1]");
         CHECK.due("26: what is doubled changes", 6, () -> y.transfer(0, 0));
         CHECK.due("26: not doubled any more", false, () -> y.isDoubled(1));
         CHECK.due("26: doubled now", true, () -> y.isDoubled(2));
-        DimensionChecker z = loaded(3, "AB=10[-2,+2];BC=20[-2,+2]");
+        DimensionChecker z = Drawings.loaded(3, "AB=10[-2,+2];BC=20[-2,+2]");
         CHECK.due("26: a width of 0", 0, () -> z.transfer(1, 0));
-        row("26", z, 1, 0, 2, 30, 0, 0);
+        CHECK.row("26", z, 1, 0, 2, 30, 0, 0);
         edgesOfTransfer();
     }
 
     private static void edgesOfTransfer() {
-        DimensionChecker x = faces(3);
+        DimensionChecker x = Drawings.faces(3);
         x.addDimension(0, 1, 50000, 0, 0);
         x.addDimension(1, 2, 49999, -999, 999);
         CHECK.due("26: the greatest nominal value", 1998, () -> x.transfer(1, 0));
-        row("26", x, 1, 0, 2, 99999, -999, 999);
-        DimensionChecker y = faces(3);
+        CHECK.row("26", x, 1, 0, 2, 99999, -999, 999);
+        DimensionChecker y = Drawings.faces(3);
         y.addDimension(0, 1, 50000, 0, 0);
         y.addDimension(1, 2, 50000, -999, 999);
         CHECK.refused("26: a nominal value out of range", STATE, y, () -> y.transfer(1, 0));
         y.addDimension(1, 2, 1, -1, 1);
         CHECK.refused("26: doubled", STATE, y, () -> y.transfer(2, 0));
-        DimensionChecker below = faces(3);
+        DimensionChecker below = Drawings.faces(3);
         below.addDimension(1, 0, 50000, 0, 0);
         below.addDimension(1, 2, -50000, 0, 0);
         CHECK.refused("26: below the range", STATE, below, () -> below.transfer(1, 0));
-        DimensionChecker high = faces(3);
+        DimensionChecker high = Drawings.faces(3);
         high.addDimension(0, 1, 5, 2, 2);
         high.addDimension(1, 2, 5, 900, 998);
         CHECK.refused("26: an upper deviation of 1000", STATE, high, () -> high.transfer(1, 0));
         high.setDeviations(1, 900, 997);
         CHECK.due("26: one of 999", 97, () -> high.transfer(1, 0));
-        DimensionChecker low = faces(3);
+        DimensionChecker low = Drawings.faces(3);
         low.addDimension(1, 0, 5, 2, 2);
         low.addDimension(1, 2, 5, -998, -900);
         CHECK.refused("26: a lower deviation of -1000", STATE, low, () -> low.transfer(1, 0));
@@ -701,8 +641,8 @@ public final class PromisesTest {
     }
 
     private static void transferRefused() {
-        DimensionChecker x = loaded(4, "AB=10[-2,+2];BC=20[-1,+2];AC=9;CA=1[-8,+8]");
-        numbersRefused("26: transfer", x, 4, d -> x.transfer(d, 0));
+        DimensionChecker x = Drawings.loaded(4, "AB=10[-2,+2];BC=20[-1,+2];AC=9;CA=1[-8,+8]");
+        CHECK.numbersRefused("26: transfer", x, 4, d -> x.transfer(d, 0));
         for (int datum : new int[] {-1, 4, 12, FAR[0], FAR[1]}) {
             CHECK.refused("26: datum " + datum, INDEX, x, () -> x.transfer(0, datum));
         }
@@ -721,34 +661,34 @@ public final class PromisesTest {
     // ---- promise 27
 
     private static void distribute() {
-        DimensionChecker x = loaded(4, "BC=1[-3,+0];BA=1[-1,+2];CD=1[+1,+2];AC=9[-9,+9]");
+        DimensionChecker x = Drawings.loaded(4, "BC=1[-3,+0];BA=1[-1,+2];CD=1[+1,+2];AC=9[-9,+9]");
         // From A to D: widths 3, 3 and 1, in the order 1, 0, 2 of the chain.
         CHECK.due("27: a wider one", 3, () -> x.distribute(0, 3, 19));
         // 19 * 3 / 7 = 8, 8 and 2; the 1 that is left goes to number 0.
-        row("27", x, 0, 1, 2, 1, -6, 3);
-        row("27", x, 1, 1, 0, 1, -4, 4);
-        row("27", x, 2, 2, 3, 1, 0, 2);
-        row("27: not of the chain", x, 3, 0, 2, 9, -9, 9);
+        CHECK.row("27", x, 0, 1, 2, 1, -6, 3);
+        CHECK.row("27", x, 1, 1, 0, 1, -4, 4);
+        CHECK.row("27", x, 2, 2, 3, 1, 0, 2);
+        CHECK.row("27: not of the chain", x, 3, 0, 2, 9, -9, 9);
         CHECK.due("27: the same again", 0, () -> x.distribute(3, 0, 19));
         CHECK.due("27: nothing left", 3, () -> x.distribute(0, 3, 0));
-        row("27", x, 0, 1, 2, 1, -2, -2);
-        row("27", x, 1, 1, 0, 1, 0, 0);
-        row("27", x, 2, 2, 3, 1, 1, 1);
+        CHECK.row("27", x, 0, 1, 2, 1, -2, -2);
+        CHECK.row("27", x, 1, 1, 0, 1, 0, 0);
+        CHECK.row("27", x, 2, 2, 3, 1, 1, 1);
         CHECK.refused("27: s is 0 now", STATE, x, () -> x.distribute(0, 3, 0));
-        DimensionChecker y = loaded(4, "AB=1;BC=1[-1,+1];CD=1[-1,+1]");
+        DimensionChecker y = Drawings.loaded(4, "AB=1;BC=1[-1,+1];CD=1[-1,+1]");
         CHECK.due("27: a width of 0 gets its 1 too", 3, () -> y.distribute(0, 3, 3));
-        row("27", y, 0, 0, 1, 1, -1, 0);
-        row("27", y, 1, 1, 2, 1, -1, 0);
-        row("27", y, 2, 2, 3, 1, -1, 0);
+        CHECK.row("27", y, 0, 0, 1, 1, -1, 0);
+        CHECK.row("27", y, 1, 1, 2, 1, -1, 0);
+        CHECK.row("27", y, 2, 2, 3, 1, -1, 0);
         CHECK.due("27: the greatest width", 1, () -> {
-            DimensionChecker z = loaded(2, "AB=1[-1,+1]");
+            DimensionChecker z = Drawings.loaded(2, "AB=1[-1,+1]");
             return z.distribute(0, 1, 1998);
         });
     }
 
     private static void distributeRefused() {
-        DimensionChecker x = loaded(4, "AB=1[+0,+2];BC=1[-1,+1];AC=1[-1,+1]");
-        facesRefused("27: distribute", x, 4, (a, b) -> x.distribute(a, b, 1));
+        DimensionChecker x = Drawings.loaded(4, "AB=1[+0,+2];BC=1[-1,+1];AC=1[-1,+1]");
+        CHECK.facesRefused("27: distribute", x, 4, (a, b) -> x.distribute(a, b, 1));
         for (int width : new int[] {-1, 1999, FAR[0], FAR[1]}) {
             CHECK.refused("27: width " + width, ARGUMENT, x, () -> x.distribute(0, 1, width));
         }
@@ -759,8 +699,8 @@ public final class PromisesTest {
         CHECK.refused("27: an upper deviation out of range", STATE, x,
                 () -> x.distribute(0, 1, 1998));
         CHECK.due("27: just in range", 1, () -> x.distribute(0, 1, 1997));
-        row("27", x, 0, 0, 1, 1, -998, 999);
-        DimensionChecker y = loaded(3, "AB=1[-1,+1];BC=1[+997,+999]");
+        CHECK.row("27", x, 0, 0, 1, 1, -998, 999);
+        DimensionChecker y = Drawings.loaded(3, "AB=1[-1,+1];BC=1[+997,+999]");
         CHECK.refused("27: the second too high, so the first stays", STATE, y,
                 () -> y.distribute(0, 2, 8));
         y.setDeviations(1, -999, -997);
@@ -776,9 +716,9 @@ public final class PromisesTest {
         long hash = hash(2, 0, 0, 1, 0, 1, 0);
         CHECK.due("28: a new object", hash, () -> x.digest());
         CHECK.due("28: twice the same", hash, () -> x.digest());
-        write(x, "AB");
+        Drawings.write(x, "AB");
         CHECK.due("28: with input", hash(2, 0, 0, 1, 0, 1, 2, 65, 66), () -> x.digest());
-        DimensionChecker y = loaded(3, "BA=10[-1,+2]");
+        DimensionChecker y = Drawings.loaded(3, "BA=10[-1,+2]");
         long[] due = {3, 1, 1, 0, 10, -1, 2, 0, 0, 0, 2, 0, 1, -10, -12, -9, 3, 0, -12, -9, 0};
         CHECK.due("28: a face apart", hash(due), () -> y.digest());
         y.addDimension(0, 1, -20, 0, 0);
