@@ -731,7 +731,8 @@ public final class DimensionChecker {
 
     /** The greatest gaps that all dimensions together leave, as shortest ways between faces. */
     private static final class TightLimits {
-        static final int NO_LIMIT = Integer.MAX_VALUE;
+        /** Far beyond what ways of eleven dimensions reach. */
+        static final int NO_LIMIT = 1000000000;
 
         final Drawing drawing;
         final int[] most = new int[MAX_FACES * MAX_FACES];
